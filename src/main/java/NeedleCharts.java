@@ -747,7 +747,7 @@ public final class NeedleCharts {
         return cost;
     }
 
-    /** A NUMBER goes 1 more, 1 less or stays; told and answered is what its EPOCH's READINGS cost before and then. */
+    /** A NUMBER goes 1 more, 1 less or stays; stands: what its EPOCH's READINGS cost; answers what they cost then. */
     private long tryNumber(int epoch, int at, long stands) {
         int[] numbers = now.field.numbers;
         int was = numbers[at];

@@ -1,0 +1,150 @@
+/** Promises 1 to 5: a new object, day, date, mayBe, land. */
+public final class DaysTest {
+    private static final NeedleCharts X = new NeedleCharts();
+
+    public static void main(String[] args) {
+        aNewObjectIsEmpty();
+        days();
+        noDates();
+        dates();
+        everyDateComesBack();
+        mayBeByOneStyle();
+        mayBeByAnyStyle();
+        land();
+        Due.end("DaysTest");
+    }
+
+    private static void aNewObjectIsEmpty() {
+        NeedleCharts x = new NeedleCharts();
+        for (int what = 0; what <= 8; what++) {
+            Due.is(0, x.count(what), "count(" + what + ") of a new object");
+        }
+        Due.is(0, x.field(35, 17, 800000), "field without epochs");
+        Due.is(-11, x.heft(0), "heft of an empty shelf");
+        Due.is(-3, x.restore(), "restore without an image");
+        Due.is(-4, x.peace(0), "peace without readings");
+        Due.is(0, x.next(9999, 1), "next without offers");
+        Due.is(-3, x.solve(1), "solve without an epoch");
+        Due.is(-1, x.shift(0), "shift without a voyage");
+    }
+
+    private static void days() {
+        Due.is(0, X.day(1, 1, 1, false), "day 0");
+        Due.is(-2, X.day(1, 1, 1, true), "the first old day");
+        Due.is(-1, X.day(1, 1, 2, true), "the second old day");
+        Due.is(364, X.day(1, 12, 31, false), "the end of year 1");
+        Due.is(365, X.day(2, 1, 1, false), "year 2");
+        Due.is(3 * 365 + 59, X.day(4, 2, 29, false), "the first long year");
+        Due.is(36524, X.day(101, 1, 1, false), "year 100 is short in the new calendar");
+        Due.is(36523, X.day(101, 1, 1, true), "and long in the old one");
+        Due.is(146097, X.day(401, 1, 1, false), "year 400 is long in both");
+        Due.is(577734, X.day(1582, 10, 4, true), "the last old day in Rome");
+        Due.is(577734, X.day(1582, 10, 14, false), "the same day by the new one");
+        Due.is(X.day(1752, 9, 2, true) + 1, X.day(1752, 9, 14, false), "the leap in London");
+        Due.is(876581, X.day(2400, 12, 31, false), "the last new day");
+        Due.is(876597, X.day(2400, 12, 31, true), "the last old day");
+    }
+
+    private static void noDates() {
+        int[][] none = {
+            {0, 1, 1}, {2401, 1, 1}, {-4, 2, 29}, {1700, 0, 1}, {1700, 13, 1}, {1700, 1, 0}, {1700, 1, 32}, {1700, 4, 31},
+            {1701, 2, 29}, {1704, 2, 30}, {Integer.MIN_VALUE, 1, 1}, {1700, Integer.MAX_VALUE, 1},
+            {1700, 1, Integer.MIN_VALUE}, {1700, Integer.MIN_VALUE, 1}, {Integer.MAX_VALUE, 1, 1},
+        };
+        for (int[] d : none) {
+            Due.is(-5, X.day(d[0], d[1], d[2], true), "old day " + d[0] + " " + d[1] + " " + d[2]);
+            Due.is(-5, X.day(d[0], d[1], d[2], false), "new day " + d[0] + " " + d[1] + " " + d[2]);
+        }
+        Due.is(-5, X.day(1700, 2, 29, false), "1700 is short in the new calendar");
+        Due.isTrue(X.day(1700, 2, 29, true) > 0, "and long in the old one");
+        Due.isTrue(X.day(1600, 2, 29, false) > 0, "400 divides 1600");
+    }
+
+    private static void dates() {
+        int rome = X.day(1582, 10, 15, false);
+        Due.is(1582, X.date(rome, true, 0), "year");
+        Due.is(10, X.date(rome, true, 1), "month");
+        Due.is(5, X.date(rome, true, 2), "day");
+        Due.is(1, X.date(0, false, 2), "new day 0");
+        Due.is(3, X.date(0, true, 2), "old day 0");
+        Due.is(2191, X.date(800000, false, 0), "year of the last day");
+        Due.is(-1, X.date(-1, true, 0), "a day below 0");
+        Due.is(-1, X.date(800001, true, 0), "a day above the last");
+        Due.is(-1, X.date(5, true, 3), "what 3");
+        Due.is(-1, X.date(5, true, -1), "what -1");
+    }
+
+    private static void everyDateComesBack() {
+        for (int day = 0; day <= 800000; day += 61) {
+            comesBack(day, true);
+            comesBack(day, false);
+        }
+        comesBack(800000, true);
+        comesBack(800000, false);
+        for (int year = 4; year <= 2190; year++) {
+            for (int day = X.day(year, 12, 30, true); day < X.day(year + 1, 1, 3, true); day++) {
+                comesBack(day, true);
+                comesBack(day, false);
+            }
+        }
+    }
+
+    private static void comesBack(int day, boolean old) {
+        int again = X.day(X.date(day, old, 0), X.date(day, old, 1), X.date(day, old, 2), old);
+        Due.is(day, again, "the day of the date of " + day);
+    }
+
+    private static void mayBeByOneStyle() {
+        Due.is(X.day(1650, 6, 5, true), X.mayBe(0, 1650, 6, 5, 0), "old");
+        Due.is(X.day(1650, 6, 5, false), X.mayBe(1, 1650, 6, 5, 0), "new");
+        Due.is(X.day(1650, 3, 25, true), X.mayBe(2, 1650, 3, 25, 0), "the first day of a year from March on");
+        Due.is(X.day(1651, 3, 24, true), X.mayBe(2, 1650, 3, 24, 0), "its last day");
+        Due.is(X.day(1650, 12, 31, true), X.mayBe(2, 1650, 12, 31, 0), "its December");
+        Due.is(X.day(1651, 1, 1, true), X.mayBe(2, 1650, 1, 1, 0), "its January");
+        Due.is(X.day(1652, 2, 29, true), X.mayBe(2, 1651, 2, 29, 0), "its February is that of the next year");
+        Due.is(-5, X.mayBe(2, 1652, 2, 29, 0), "and not of its own");
+        Due.is(1, X.mayBe(2, 1650, 1, 1, -1), "how many");
+        Due.is(-5, X.mayBe(2, 1650, 1, 1, 1), "a second one");
+        Due.is(-5, X.mayBe(2, 2400, 3, 24, 0), "there is no year 2401");
+        Due.is(X.day(2400, 3, 25, true), X.mayBe(2, 2400, 3, 25, 0), "the last year from March on");
+        Due.is(-5, X.mayBe(1, 1700, 2, 29, 0), "no new date");
+        Due.is(0, X.mayBe(1, 1700, 2, 29, -1), "no new date: none");
+        Due.is(-2, X.mayBe(0, 1, 1, 1, 0), "a day below 0");
+        Due.is(-5, X.mayBe(2, Integer.MAX_VALUE, 1, 1, 0), "a year far off");
+    }
+
+    private static void mayBeByAnyStyle() {
+        Due.is(3, X.mayBe(3, 1650, 1, 1, -1), "three days");
+        Due.is(X.day(1650, 1, 1, false), X.mayBe(3, 1650, 1, 1, 0), "new is first");
+        Due.is(X.day(1650, 1, 1, true), X.mayBe(3, 1650, 1, 1, 1), "then old");
+        Due.is(X.day(1651, 1, 1, true), X.mayBe(3, 1650, 1, 1, 2), "then from March on");
+        Due.is(-5, X.mayBe(3, 1650, 1, 1, 3), "no fourth");
+        Due.is(-5, X.mayBe(3, 1650, 1, 1, Integer.MAX_VALUE), "none so far on");
+        Due.is(2, X.mayBe(3, 250, 1, 1, -1), "old and new are one day in the third century");
+        Due.is(1, X.mayBe(3, 250, 6, 1, -1), "all are one day");
+        Due.is(3, X.mayBe(3, 1, 1, 1, -1), "old is first in year 1");
+        Due.is(-2, X.mayBe(3, 1, 1, 1, 0), "old in year 1");
+        Due.is(0, X.mayBe(3, 1, 1, 1, 1), "new in year 1");
+        Due.is(1, X.mayBe(3, 1703, 2, 29, -1), "from March on alone");
+        Due.is(0, X.mayBe(3, 1703, 2, 30, -1), "no date at all");
+        Due.is(-1, X.mayBe(-1, 1650, 1, 1, 0), "style -1");
+        Due.is(-1, X.mayBe(4, 1650, 1, 1, 0), "style 4");
+        Due.is(-1, X.mayBe(0, 1650, 1, 1, -2), "i -2");
+        Due.is(-1, X.mayBe(0, 1650, 13, 1, -2), "i -2 comes ahead of no date");
+    }
+
+    private static void land() {
+        NeedleCharts x = new NeedleCharts();
+        Due.is(36, x.land(0, 35, 0, true), "a whole row");
+        Due.is(0, x.land(0, 35, 0, true), "nothing changes");
+        Due.is(2, x.land(34, 35, 0, false), "its end is sea");
+        Due.is(4, x.land(32, 35, 17, true), "the last row");
+        Due.is(38, x.count(7), "land");
+        Due.is(0, x.land(0, 5, 3, false), "sea already");
+        int[][] wrong = {{-1, 3, 0}, {0, 36, 0}, {4, 3, 0}, {0, 3, -1}, {0, 3, 18}, {0, Integer.MAX_VALUE, 0}};
+        for (int[] w : wrong) {
+            Due.is(-1, x.land(w[0], w[1], w[2], true), "land " + w[0] + " " + w[1] + " " + w[2]);
+        }
+        Due.is(38, x.count(7), "a refused call changes nothing");
+    }
+}
