@@ -752,10 +752,11 @@ public final class NeedleCharts {
         int[] numbers = now.field.numbers;
         int was = numbers[at];
         long asItIs = stands + now.smoothAround(at);
-        long readingsMore = 0;
-        long readingsLess = 0;
-        long more = Long.MAX_VALUE;
-        long less = Long.MAX_VALUE;
+        long readingsMore = stands;
+        long readingsLess = stands;
+        // beyond its ends a NUMBER cannot go: there it costs what it costs now, and so stays
+        long more = asItIs;
+        long less = asItIs;
         if (was < MOST_OF_A_NUMBER) {
             numbers[at] = was + 1;
             readingsMore = fitCost(epoch);
@@ -1253,27 +1254,22 @@ public final class NeedleCharts {
             this.heading = heading;
         }
 
-        @Override
         int kind() {
             return SHIP;
         }
 
-        @Override
         int heading() {
             return heading;
         }
 
-        @Override
         int weight() {
             return super.weight() / 2;
         }
 
-        @Override
         int span() {
             return super.span() + 15;
         }
 
-        @Override
         int worth() {
             return super.worth() + 10 * heading;
         }
@@ -1284,27 +1280,22 @@ public final class NeedleCharts {
             super(source, place, day, value, edition);
         }
 
-        @Override
         int kind() {
             return PLAN;
         }
 
-        @Override
         int weight() {
             return super.weight() - 2;
         }
 
-        @Override
         int span() {
             return super.span() + 10;
         }
 
-        @Override
         int worth() {
             return super.worth() + x();
         }
 
-        @Override
         void fail(boolean onLand) {
             if (!onLand) {
                 super.fail(onLand);
@@ -1317,22 +1308,18 @@ public final class NeedleCharts {
             super(source, place, day, value, edition);
         }
 
-        @Override
         int kind() {
             return STATION;
         }
 
-        @Override
         int weight() {
             return 2 * super.weight();
         }
 
-        @Override
         int span() {
             return super.span() / 4;
         }
 
-        @Override
         int worth() {
             return super.worth() + 200;
         }
@@ -1343,28 +1330,23 @@ public final class NeedleCharts {
             super(source, place, day, value, edition);
         }
 
-        @Override
         int kind() {
             return SHAKEN;
         }
 
-        @Override
         int weight() {
             return super.weight() / 4;
         }
 
-        @Override
         int span() {
             return super.span() + 40;
         }
 
-        @Override
         int worth() {
             return 2 * super.worth();
         }
 
         /** Another class of exception than the plain one, by which it is told apart when caught. */
-        @Override
         void fail(boolean onLand) {
             throw new UnsupportedOperationException("a shaken station failed");
         }
@@ -1375,17 +1357,14 @@ public final class NeedleCharts {
             super(source, place, day, value, edition);
         }
 
-        @Override
         int kind() {
             return COPIED;
         }
 
-        @Override
         int weight() {
             return 0;
         }
 
-        @Override
         void fail(boolean onLand) {
             // nobody measured it, so nobody failed
         }

@@ -38,6 +38,23 @@ public final class ChartsTest {
             Due.is(-1, x.turned(w[0], w[1], w[2], w[3]), "turned " + java.util.Arrays.toString(w));
         }
         Due.is(77, new NeedleCharts().turned(77, 3, 0, 9), "without epochs");
+        NeedleCharts y = tilted();
+        Due.is(300 - 17, y.turned(300, 18 * 35 + 17, 0, 100), "by 10 at y 10, by 17 at y 17");
+        Due.is(17 + 20, y.left(18 * 35 + 17, 0, 0, 20, 100), "the same for lines");
+        y.chart(0);
+        Due.is(17, y.off(0, 18 * 35 + 17, 100, false), "and for charts");
+        Due.numbers(y, 0, 1, 18 * 35 + 17);
+        Due.is(365, y.late(0, 0, 16), "that are too old");
+        Due.is(-4, y.late(0, 0, 17), "or not");
+    }
+
+    /** The FIELD is 0 on day 0 and y from day 100 on. */
+    private static NeedleCharts tilted() {
+        NeedleCharts x = new NeedleCharts();
+        x.epoch(0);
+        x.epoch(100);
+        x.number(1, 2, 10);
+        return x;
     }
 
     private static void linesLeft() {
@@ -111,6 +128,17 @@ public final class ChartsTest {
         Due.is(365 * 6, x.late(0, 0, 5), "above 5 without sign");
         Due.is(365 * 100, x.late(0, 0, 99), "the last step");
         Due.is(-4, x.late(0, 0, 100), "never above 100");
+        Due.numbers(x, 0, 1, 19 * 18, 0);
+        Due.is(365 * 100, x.late(0, 0, 849), "850 at the last step");
+        x.number(1, 0, 0);
+        x.number(1, 1, 0);
+        x.epoch(36501);
+        x.number(2, 0, 9999);
+        Due.is(-4, x.late(0, 0, 0), "a hundred steps, and none more");
+        x.number(1, 0, -100);
+        x.number(1, 1, 500);
+        x.number(2, 0, -100);
+        x.number(2, 1, 500);
         Due.numbers(x, 0, 1, 0, 360, 36);
         Due.is(365, x.late(0, 0, 5), "one of the places");
         Due.is(365 * 2, x.late(0, 0, 17), "one of the places");
@@ -120,6 +148,7 @@ public final class ChartsTest {
         Due.is(-4, x.late(0, 0, 0), "no places");
         x.chart(800000);
         x.number(1, 0, -90);
+        x.number(2, 0, -90);
         Due.numbers(x, 0, 1, 0);
         Due.is(800365, x.late(1, 0, 9), "a day behind all days of the calls");
         Due.is(-4, x.late(1, 0, 10), "the field stays as it is behind the last epoch");

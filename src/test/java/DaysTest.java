@@ -5,6 +5,7 @@ public final class DaysTest {
     public static void main(String[] args) {
         aNewObjectIsEmpty();
         days();
+        months();
         noDates();
         dates();
         everyDateComesBack();
@@ -43,6 +44,24 @@ public final class DaysTest {
         Due.is(X.day(1752, 9, 2, true) + 1, X.day(1752, 9, 14, false), "the leap in London");
         Due.is(876581, X.day(2400, 12, 31, false), "the last new day");
         Due.is(876597, X.day(2400, 12, 31, true), "the last old day");
+    }
+
+    private static void months() {
+        int[] lengths = {31, 28, 31, 30, 31, 30, 31, 31, 30, 31, 30, 31};
+        for (int year = 1699; year <= 1704; year++) {
+            for (int m = 1; m <= 12; m++) {
+                month(year, m, true, lengths[m - 1] + (m == 2 && (year == 1700 || year == 1704) ? 1 : 0));
+                month(year, m, false, lengths[m - 1] + (m == 2 && year == 1704 ? 1 : 0));
+            }
+        }
+    }
+
+    private static void month(int year, int month, boolean old, int length) {
+        int first = X.day(year, month, 1, old);
+        Due.is(-5, X.day(year, month, length + 1, old), "a day behind month " + month + " of " + year);
+        Due.is(first + length - 1, X.day(year, month, length, old), "the last day of month " + month + " of " + year);
+        int next = month < 12 ? X.day(year, month + 1, 1, old) : X.day(year + 1, 1, 1, old);
+        Due.is(first + length, next, "the first day behind month " + month + " of " + year);
     }
 
     private static void noDates() {

@@ -12,6 +12,8 @@ public final class FieldTest {
         solveRounds();
         solveAtItsEnds();
         solveSmooths();
+        solveGoesUpIfBothAreOne();
+        solveAtEveryPlace();
         adjusts();
         Due.end("FieldTest");
     }
@@ -242,6 +244,38 @@ public final class FieldTest {
         Due.is(5, y.told(1, 0), "no reading tells of this one");
     }
 
+    private static void solveGoesUpIfBothAreOne() {
+        // by c1 4 the field is 0 at x 2 and 2 at x 5, by 5 it is 1 and 2, by 3 it is 0 and 1
+        NeedleCharts x = new NeedleCharts();
+        x.epoch(0);
+        x.number(0, 1, 4);
+        x.reading(0, 0, 18 * 2, 0, 1, 0);
+        x.reading(0, 0, 18 * 5, 0, 1, 0);
+        Due.is(16, x.cost(0), "each is off by 1");
+        Due.is(102, x.solve(60), "a step, then none");
+        Due.is(8, x.cost(0), "one is off by 1");
+        Due.is(5, x.told(0, 1), "1 more");
+    }
+
+    private static void solveAtEveryPlace() {
+        NeedleCharts x = new NeedleCharts();
+        x.epoch(100);
+        x.epoch(200);
+        x.number(0, 2, 40);
+        Due.rule(x, "g:1");
+        x.reading(0, 0, 18 * 3 + 10, 150, 22, 0);
+        // 40 by the first, 0 by the second one: 20 between. c0 of the first 1 more: 41 less 20 (cut) is 21;
+        // then c1 1 more is nothing (3 by 10), c2 1 more is 42 less 21, c3 1 more is nothing (30 by 100);
+        // and 1 by the second one is 41 less 20, too: nothing comes nearer
+        Due.is(102, x.solve(60), "a step, then none");
+        long[] first = {1, 0, 40, 0};
+        for (int which = 0; which < 4; which++) {
+            Due.is(first[which], x.told(0, which), "number " + which + " of the first");
+            Due.is(0, x.told(1, which), "number " + which + " of the second");
+        }
+        Due.is(1, x.misfit(0), "nearer by one");
+    }
+
     private static void adjusts() {
         NeedleCharts x = new NeedleCharts();
         x.epoch(0);
@@ -262,6 +296,11 @@ public final class FieldTest {
         Due.rule(x, "k:v-2");
         Due.is(-8, x.adjust(2, 5), "this one is struck");
         Due.rule(x, "k:0");
+        Due.rule(x, "g:v-2");
+        Due.is(-7, x.adjust(2, 5), "a weight of 1 is above 0, one of 0 is not");
+        x.reading(1, 0, 0, 0, 100, 0);
+        Due.is(90, x.adjust(0, 0), "source 0, heading 0");
+        Due.is(0, x.misfit(5), "it is iron then");
         for (int which = 0; which < 4; which++) {
             x.number(0, which, 9999);
         }

@@ -67,6 +67,8 @@ public final class ImageTest {
         Due.is(2, x.set(0, 2), "many");
         Due.is(30, x.set(1, 30), "bound");
         Due.is(6, x.set(2, 6), "smooth");
+        Due.is(1, x.strike(0), "the rule that was struck later is not");
+        Due.is(-3, x.strike(1), "the one that was is");
         Due.is(2, x.leg(0, 1, 1), "the voyage goes on from one leg");
         Due.is(505505, x.closed(0, 1, 0), "and is open still");
     }
@@ -87,6 +89,7 @@ public final class ImageTest {
             x.reading(0, 0, 0, 0, 0, 0);
         }
         x.epoch(7);
+        x.number(0, 0, 5);
         x.number(0, 1, 5);
         x.restore();
         Due.is(0, x.count(0), "no readings");
@@ -94,7 +97,23 @@ public final class ImageTest {
         Due.is(5, x.about(0, 0), "with another reading");
         Due.illegal(() -> x.value(1), "no second one");
         Due.is(0, x.epoch(3), "an earlier epoch");
-        Due.is(0, x.told(0, 1), "whose numbers are 0");
+        Due.is(0, x.told(0, 0) + x.told(0, 1), "whose numbers are 0");
+        longVoyages();
+    }
+
+    private static void longVoyages() {
+        NeedleCharts x = new NeedleCharts();
+        x.voyage(0, 0);
+        for (int i = 0; i < 29; i++) {
+            x.leg(0, 1, 1);
+        }
+        x.image();
+        x.sight(0, 35, 0);
+        Due.is(535500, x.closed(0, 29, 0), "closed at the sight");
+        x.restore();
+        Due.is(529529, x.closed(0, 28, 0), "open again");
+        Due.is(29, x.closed(0, 28, 1), "with its span");
+        Due.is(30, x.leg(0, 0, 0), "and with room for a last leg");
     }
 
     private static void theImageStays() {

@@ -65,6 +65,12 @@ public final class RivalsTest {
         x.iron(0, 0, 500);
         Due.rule(x, "k:0");
         Due.is(1, x.rival(0, 1), "iron has no part in it");
+        Due.rule(x, "g:1");
+        Due.is(1, x.rival(0, 1), "a weight of 1 is above 0");
+        Due.rule(x, "g:1-s");
+        Due.is(0, x.rival(0, 1), "one of 0 is not");
+        Due.rule(x, "g:s");
+        Due.is(0, x.rival(0, 1), "nor on this side");
     }
 
     private static void peaceOfFew() {

@@ -194,6 +194,11 @@ public final class RulesTest {
         Due.is(-1, x.strike(-1), "rule -1");
         Due.is(1, x.strike(0), "the other one");
         Due.is(8, x.counts(0, 0, 8), "then by kind");
+        x.edition(60);
+        Due.is(4, Due.rule(x, "p:50") + 1, "in 60");
+        Due.is(3, x.force(2, 60), "in force by 60");
+        Due.is(1, x.strike(3), "struck in 60");
+        Due.is(-4, x.force(2, 60), "no more");
         Due.is(20, x.counts(0, 0, 7), "but not by 7");
     }
 
@@ -269,6 +274,23 @@ public final class RulesTest {
         Due.is(-1, x.night(8), "no such reading");
         Due.is(-1, x.night(-1), "reading -1");
         samePlaceCountsOnce();
+        nightsAreFoundAnew();
+    }
+
+    private static void nightsAreFoundAnew() {
+        NeedleCharts x = new NeedleCharts();
+        x.reading(3, 0, 5, 100, 0, 0);
+        x.reading(3, 0, 5, 101, 100, 0);
+        x.reading(3, 0, 6, 100, 0, 0);
+        x.image();
+        Due.is(0, x.night(0), "one place strays");
+        x.reading(4, 0, 6, 101, 100, 0);
+        for (int i = 0; i < 3; i++) {
+            x.set(1, 30 + i);
+            Due.is(1, x.night(0), "two places stray, the " + i + "-th time");
+        }
+        x.restore();
+        Due.is(0, x.night(0), "one place strays, as then");
     }
 
     private static void samePlaceCountsOnce() {

@@ -51,6 +51,9 @@ public final class ShelvesTest {
             Due.is(0, x.row(sort, sort, 80), "a row again");
             Due.is(0, x.element(sort, 79), "0 at first");
         }
+        x.put(2, 0, 5);
+        x.row(2, 2, 1);
+        Due.is(0, x.element(2, 0), "the first one, too");
         Due.is(0, x.row(7, 1, 0), "a row without elements");
         Due.is(-13, x.put(7, 0, 0), "has no place");
     }
@@ -96,6 +99,7 @@ public final class ShelvesTest {
         Due.numbers(x, 1, 1, 9, 9, 9);
         Due.is(2, x.copy(0, 3, 1, 1, 2), "to another row");
         row(x, 1, 9, 4, 5);
+        Due.is(3, x.copy(1, 0, 1, 0, 3), "a whole row");
         Due.is(4, x.copy(0, 0, 0, 1, 4), "forward in one row");
         row(x, 0, 1, 1, 2, 3, 4);
         Due.is(4, x.copy(0, 1, 0, 0, 4), "back in one row");

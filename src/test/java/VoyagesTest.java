@@ -128,6 +128,16 @@ public final class VoyagesTest {
         Due.is(101, x.shift(1), "9 west, 9 south");
         x.leg(1, 1, 0);
         Due.is(-4, x.shift(1), "10 west");
+        x.voyage(9, 0);
+        x.leg(2, -9, -9);
+        Due.is(1019, x.shift(2), "9 north");
+        x.leg(2, -9, 9);
+        Due.is(1919, x.shift(2), "9 east, 9 north");
+        x.voyage(0, 17);
+        for (int i = 0; i < 30; i++) {
+            x.leg(3, 0, i < 29 ? 0 : 5);
+        }
+        Due.is(1005, x.shift(3), "the thirtieth leg counts");
     }
 
     private static void ofSeveralShifts() {
