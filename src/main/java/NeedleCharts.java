@@ -68,7 +68,7 @@ public final class NeedleCharts {
     private static final int SHORTS = 1;
     private static final int INTS = 2;
     private static final int NO_ROW = -1;
-    private static final int ANY_ROW = -1;
+    private static final int ANY_ROW = -2;
 
     /** The columns of what SOLVING works on; each is a row over the READINGS that weigh. */
     private static final int FIT_X = 0;
@@ -981,7 +981,7 @@ public final class NeedleCharts {
         int sets = 1 << Math.max(0, Math.min(n, MOST_PARTIES));
         int best = sets - 1;
         for (int set = 0; set < sets; set++) {
-            if (Integer.bitCount(set) < Integer.bitCount(best) && atPeace(sets - 1 & ~set)) {
+            if (Integer.bitCount(set) < Integer.bitCount(best) && atPeace((sets - 1) & ~set)) {
                 best = set;
             }
         }
@@ -1366,7 +1366,7 @@ public final class NeedleCharts {
         }
 
         void fail(boolean onLand) {
-            // nobody measured it, so nobody failed
+            // nobody took this reading, so nothing failed
         }
     }
 
@@ -1817,7 +1817,7 @@ public final class NeedleCharts {
         }
 
         private static long bits(int x0, int x1) {
-            return (1L << x1 - x0 + 1) - 1 << x0;
+            return ((1L << (x1 - x0 + 1)) - 1) << x0;
         }
 
         int lay(int x0, int x1, int y, boolean is) {
