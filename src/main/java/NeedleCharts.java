@@ -197,6 +197,10 @@ public final class NeedleCharts {
         return within(x, 0, WIDE - 1) && within(y, 0, HIGH - 1);
     }
 
+    private static boolean isYear(int year) {
+        return within(year, 1, LAST_YEAR);
+    }
+
     private static boolean isLong(int year, boolean old) {
         return year % 4 == 0 && (old || year % 100 != 0 || year % 400 == 0);
     }
@@ -216,7 +220,7 @@ public final class NeedleCharts {
     }
 
     private static int dayOf(int year, int month, int day, boolean old) {
-        if (!within(year, 1, LAST_YEAR) || !within(month, 1, 12)) {
+        if (!isYear(year) || !within(month, 1, 12)) {
             return NO_DATE;
         }
         int ahead = daysAhead(year, month, old);
@@ -226,7 +230,11 @@ public final class NeedleCharts {
         return newYearsDay(year, old) + ahead + day - 1;
     }
 
+    /** The told year must have DATES itself: a year 0 has none, though its January is that of an OLD year 1. */
     private static int dayByMarch(int year, int month, int day) {
+        if (!isYear(year)) {
+            return NO_DATE;
+        }
         boolean early = month < 3 || month == 3 && day < 25;
         return dayOf(early ? year + 1 : year, month, day, true);
     }

@@ -11,6 +11,7 @@ public final class DaysTest {
         everyDateComesBack();
         mayBeByOneStyle();
         mayBeByAnyStyle();
+        mayBeAtTheEndsOfTheYears();
         land();
         Due.end("DaysTest");
     }
@@ -150,6 +151,29 @@ public final class DaysTest {
         Due.is(-1, X.mayBe(4, 1650, 1, 1, 0), "style 4");
         Due.is(-1, X.mayBe(0, 1650, 1, 1, -2), "i -2");
         Due.is(-1, X.mayBe(0, 1650, 13, 1, -2), "i -2 comes ahead of no date");
+    }
+
+    /** The told year itself must be 1 .. 2400, and the OLD DATE's year too, which may be the next one. */
+    private static void mayBeAtTheEndsOfTheYears() {
+        int[] noYears = {0, -1, -4, 2401, Integer.MIN_VALUE, Integer.MAX_VALUE};
+        int[][] dates = {{1, 1}, {2, 28}, {2, 29}, {3, 24}, {3, 25}, {12, 31}};
+        for (int year : noYears) {
+            for (int[] date : dates) {
+                for (int style = 0; style <= 3; style++) {
+                    String call = "style " + style + " of " + year + " " + date[0] + " " + date[1];
+                    Due.is(-5, X.mayBe(style, year, date[0], date[1], 0), call);
+                    Due.is(0, X.mayBe(style, year, date[0], date[1], -1), "how many by " + call);
+                }
+            }
+        }
+        Due.is(X.day(2, 1, 1, true), X.mayBe(2, 1, 1, 1, 0), "January of the first year is that of year 2");
+        Due.is(X.day(2, 3, 24, true), X.mayBe(2, 1, 3, 24, 0), "the last day of the first year");
+        Due.is(X.day(1, 3, 25, true), X.mayBe(2, 1, 3, 25, 0), "the first day of the first year");
+        Due.is(X.day(2400, 3, 24, true), X.mayBe(2, 2399, 3, 24, 0), "the last day of year 2399");
+        Due.is(X.day(2400, 2, 29, true), X.mayBe(2, 2399, 2, 29, 0), "its February 29 is that of 2400");
+        Due.is(-5, X.mayBe(2, 2400, 1, 1, 0), "no January behind year 2400");
+        Due.is(2, X.mayBe(3, 2400, 1, 1, -1), "old and new are left in 2400");
+        Due.is(X.day(2400, 1, 1, true), X.mayBe(3, 2400, 1, 1, 1), "of which old is the later one");
     }
 
     private static void land() {

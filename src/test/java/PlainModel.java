@@ -169,7 +169,7 @@ public final class PlainModel {
         if (style == 1 || style == 3) {
             days.add(day(year, month, day, false));
         }
-        if (style == 2 || style == 3) {
+        if (in(year, 1, 2400) && (style == 2 || style == 3)) {
             days.add(day(month * 100 + day < 325 ? year + 1 : year, month, day, true));
         }
         days.remove(-5);

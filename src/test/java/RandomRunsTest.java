@@ -116,7 +116,7 @@ public final class RandomRunsTest {
             return EDGES[random.nextInt(EDGES.length)];
         }
         switch (sort) {
-            case "year": return random.nextInt(3) == 0 ? 1700 + random.nextInt(5) : random.nextInt(2402);
+            case "year": return year();
             case "dom": return 1 + random.nextInt(random.nextInt(4) == 0 ? 32 : 28);
             case "anyday": return random.nextInt(800001);
             case "place": return random.nextInt(8) == 0 ? random.nextInt(648) : places[random.nextInt(4)];
@@ -133,6 +133,16 @@ public final class RandomRunsTest {
             case "element": return random.nextInt(3) == 0 ? random.nextInt() : random.nextInt(90);
             case "shelf": return random.nextInt(4);
             default: return range(sort);
+        }
+    }
+
+    /** Now and then about the first year or the last one, where a year more or less makes the difference. */
+    private int year() {
+        switch (random.nextInt(6)) {
+            case 0: return random.nextInt(4) - 1;
+            case 1: return 2398 + random.nextInt(5);
+            case 2: return 1700 + random.nextInt(5);
+            default: return random.nextInt(2402);
         }
     }
 
