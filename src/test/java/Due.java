@@ -2,6 +2,7 @@
 final class Due {
     private static int checks = 0;
     private static int wrong = 0;
+    private static String sentence = "";
 
     private Due() {
     }
@@ -11,19 +12,27 @@ final class Due {
         long answer() throws Exception;
     }
 
+    /** The words of the document that the checks from here on are about; they are told with what is wrong. */
+    static void says(String words) {
+        sentence = " (" + words + ")";
+    }
+
+    private static void tell(String fault) {
+        wrong++;
+        System.out.println(fault + sentence);
+    }
+
     static void is(long want, long got, String call) {
         checks++;
         if (want != got) {
-            wrong++;
-            System.out.println(call + " answered " + got + ", due is " + want);
+            tell(call + " answered " + got + ", due is " + want);
         }
     }
 
     static void isTrue(boolean holds, String what) {
         checks++;
         if (!holds) {
-            wrong++;
-            System.out.println("not so: " + what);
+            tell("not so: " + what);
         }
     }
 
@@ -32,18 +41,20 @@ final class Due {
         checks++;
         try {
             long got = call.answer();
-            wrong++;
-            System.out.println(name + " answered " + got + ", due is " + want.getName());
+            tell(name + " answered " + got + ", due is " + want.getName());
         } catch (Exception e) {
             if (e.getClass() != want) {
-                wrong++;
-                System.out.println(name + " threw " + e + ", due is " + want.getName());
+                tell(name + " threw " + e + ", due is " + want.getName());
             }
         }
     }
 
     static void illegal(Call call, String name) {
         fails(IllegalArgumentException.class, call, name);
+    }
+
+    static void illegalState(Call call, String name) {
+        fails(IllegalStateException.class, call, name);
     }
 
     /** A text as a ROW of bytes in a SHELF. */

@@ -61,10 +61,11 @@ public final class RulesTest {
             Due.is(-100 - places[i], x.rule(0), "rule of " + texts[i]);
         }
         Due.is(0, x.count(1), "no rules");
-        longTexts(x);
+        longTexts();
     }
 
-    private static void longTexts(NeedleCharts x) {
+    private static void longTexts() {
+        NeedleCharts x = new NeedleCharts();
         Due.text(x, 0, "k:" + "x?".repeat(39));
         Due.is(80, x.fault(0), "it ends too early at 80");
         Due.text(x, 0, "k:" + "x?".repeat(19) + "y" + ":0".repeat(19) + "+");
