@@ -17,7 +17,9 @@ public final class BoundsOfImageTest {
         settingsAndNightsGoBack();
         voyagesGoBack();
         openLegsGoBack();
+        longVoyagesGoBack();
         epochsGoBack();
+        allNumbersGoBack();
         ironGoesBack();
         chartsGoBack();
         offersGoBack();
@@ -223,8 +225,9 @@ public final class BoundsOfImageTest {
         x.leg(0, 2, 2);
         x.image();
         x.leg(0, 2, 2);
-        x.sight(0, 20, 10);
+        x.sight(0, 20, 17);
         x.voyage(9, 9);
+        Due.is(at(12, 11), x.closed(0, 0, 0), "as CLOSED");
         x.restore();
         Due.is(1, x.count(2), "VOYAGES");
         Due.is(at(7, 7), x.closed(0, 0, 0), "as RECKONED");
@@ -255,6 +258,57 @@ public final class BoundsOfImageTest {
         x.restore();
         x.leg(0, 3, 3);
         Due.is(1, x.closed(0, 3, 1), "one LEG since the SIGHT");
+    }
+
+    private static void longVoyagesGoBack() {
+        Due.says("VOYAGES as they were then, all of their LEGS");
+        NeedleCharts x = new NeedleCharts();
+        for (int v = 0; v < 6; v++) {
+            x.voyage(v, 0);
+        }
+        for (int i = 0; i < 29; i++) {
+            x.leg(5, 1, 1);
+        }
+        x.image();
+        x.sight(5, 0, 17);
+        x.restore();
+        for (int i = 0; i < 29; i++) {
+            Due.is(at(6 + i, 1 + i), x.closed(5, i, 0), "behind LEG " + i);
+            Due.is(i + 1, x.closed(5, i, 1), "SPAN of LEG " + i);
+        }
+        Due.is(-1, x.closed(5, 29, 0), "there is no thirtieth");
+        Due.is(30, x.leg(5, 1, 1), "there is room for it");
+        x.image();
+        x.restore();
+        Due.is(at(35, 30), x.closed(5, 29, 0), "the thirtieth");
+        Due.is(30, x.closed(5, 29, 1), "its SPAN");
+    }
+
+    private static void allNumbersGoBack() {
+        Due.says("EPOCHS and their NUMBERS as they were then, all of them");
+        NeedleCharts x = new NeedleCharts();
+        for (int epoch = 0; epoch < 4; epoch++) {
+            x.epoch(10 * epoch);
+            for (int which = 0; which < 4; which++) {
+                x.number(epoch, which, 10 * epoch + which + 1);
+            }
+        }
+        x.chart(30);
+        x.image();
+        for (int epoch = 0; epoch < 4; epoch++) {
+            for (int which = 0; which < 4; which++) {
+                x.number(epoch, which, -50);
+            }
+        }
+        x.restore();
+        for (int epoch = 0; epoch < 4; epoch++) {
+            for (int which = 0; which < 4; which++) {
+                Due.is(10 * epoch + which + 1, x.told(epoch, which), "NUMBER " + which + " of EPOCH " + epoch);
+            }
+            Due.is(10 * epoch + 1, x.field(0, 0, 10 * epoch), "on the DAY of EPOCH " + epoch);
+        }
+        Due.is(0, x.off(0, 0, 30, false), "the CHART's own, too");
+        Due.is(0, x.off(0, 0, 30, true), "the CHART's own, too");
     }
 
     private static void epochsGoBack() {

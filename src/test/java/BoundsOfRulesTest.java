@@ -17,6 +17,7 @@ public final class BoundsOfRulesTest {
         faultsAtTheSize();
         faultsOfRowsThatAreFull();
         bytesThatAreNoSigns();
+        eachTextForItself();
         faultRefuses();
         ruleRefusesInOrder();
         rulesAreTwentyAtMost();
@@ -242,6 +243,22 @@ public final class BoundsOfRulesTest {
         // what is put in keeps its lowest bits, so this is a text
         Due.numbers(x, 0, 0, 'k' + 256, ':' - 256, 'x' + 65536);
         Due.is(-4, x.fault(0), "lowest bits are signs");
+    }
+
+    private static void eachTextForItself() {
+        Due.says("FAULT: of the text in the SHELF, whatever was read ahead of it");
+        String[] ahead = {"k:(", "k:((((((((", "k:1?", "k:1?2:", "k:1+", "k:12", "k:1234", "k:1*(2", "k:x?(y", "k:0", "k", ""};
+        String[] texts = {"k:1)", "k:1:2", "k:(1", "k:5", "k:0", "k:((((((((1))))))))", "k:+", "k:1?2:3", "k:", "", "5", ":1"};
+        int[] due = {3, 3, 4, -4, -4, -4, 2, -4, 2, 0, 0, 0};
+        for (String first : ahead) {
+            NeedleCharts x = new NeedleCharts();
+            Due.text(x, 0, first);
+            for (int i = 0; i < texts.length; i++) {
+                Due.text(x, 1, texts[i]);
+                x.fault(0);
+                Due.is(due[i], x.fault(1), "fault of " + texts[i] + " behind " + first);
+            }
+        }
     }
 
     private static void faultRefuses() {

@@ -25,6 +25,7 @@ public final class BoundsOfSolvingTest {
         readingsBetweenEpochs();
         smoothPulls();
         solvingIsByTheEdition();
+        theLeastWeightCounts();
         solvingCountsIron();
         Due.end("BoundsOfSolvingTest");
     }
@@ -403,6 +404,26 @@ public final class BoundsOfSolvingTest {
         x.edition(3);
         Due.is(103, x.solve(60), "two steps back: 1 and 2 of three are nearest at 1");
         Due.is(1, x.told(0, 0), "told");
+    }
+
+    private static void theLeastWeightCounts() {
+        Due.says("WEIGHT of 1, the least that is above 0");
+        NeedleCharts x = wanting(3);
+        Due.rule(x, "g:1");
+        Due.is(9, x.cost(0), "9 times 1");
+        Due.is(104, x.solve(60), "three steps");
+        Due.is(0, x.cost(0), "it fits");
+        NeedleCharts y = wanting(3);
+        y.reading(0, 1, 0, 0, -3, 0);
+        Due.rule(y, "g:s");
+        Due.is(9, y.cost(0), "the one of WEIGHT 0 costs nothing");
+        Due.is(104, y.solve(60), "three steps");
+        Due.is(-3, y.told(0, 0), "toward the one of WEIGHT 1");
+        NeedleCharts z = wanting(5);
+        z.reading(3, 1, 0, 0, 0, 0);
+        Due.rule(z, "g:100-99*s");
+        Due.is(2500, z.cost(0), "100 at most");
+        Due.is(106, z.solve(60), "five steps: 100 to 1");
     }
 
     private static void solvingCountsIron() {
