@@ -26,6 +26,8 @@ public final class BoundsOfSolvingTest {
         smoothPulls();
         solvingIsByTheEdition();
         theLeastWeightCounts();
+        solvingIsOfWhatWeighsNow();
+        solvingOfEightyReadings();
         solvingCountsIron();
         Due.end("BoundsOfSolvingTest");
     }
@@ -424,6 +426,37 @@ public final class BoundsOfSolvingTest {
         Due.rule(z, "g:100-99*s");
         Due.is(2500, z.cost(0), "100 at most");
         Due.is(106, z.solve(60), "five steps: 100 to 1");
+    }
+
+    private static void solvingIsOfWhatWeighsNow() {
+        Due.says("28: READINGS that weighed in an earlier SOLVING and do no more");
+        NeedleCharts x = wanting(3);
+        x.reading(0, 1, 0, 0, 3, 0);
+        Due.is(104, x.solve(60), "both");
+        x.number(0, 0, 0);
+        Due.rule(x, "k:s");
+        Due.rule(x, "g:0-3+v");
+        x.reading(0, 0, 0, 0, 5, 0);
+        Due.is(106, x.solve(60), "the third alone");
+        Due.rule(x, "k:1");
+        x.number(0, 0, 0);
+        Due.is(101, x.solve(60), "none");
+        Due.is(0, x.told(0, 0), "it stays");
+    }
+
+    private static void solvingOfEightyReadings() {
+        Due.says("READINGS 0 .. 79: all of them");
+        for (int last : new int[] {0, 40, 79}) {
+            NeedleCharts x = new NeedleCharts();
+            x.epoch(0);
+            Due.rule(x, "g:v?100:1");
+            for (int i = 0; i < 80; i++) {
+                x.reading(0, 0, 0, 0, i == last ? 1 : 0, 0);
+            }
+            Due.is(100, x.cost(0), "the one at " + last);
+            Due.is(102, x.solve(60), "100 weighs more than 79");
+            Due.is(79, x.cost(0), "the others");
+        }
     }
 
     private static void solvingCountsIron() {
